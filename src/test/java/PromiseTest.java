@@ -167,6 +167,7 @@ public final class PromiseTest {
         check.due("both are reckoned", (500 - 100 + 800) - 150, x.value(0, 4, 2));
         check.due("in the last month", 2, x.event(0, 35, HELD, 0, 0));
         check.badState("one a month", () -> x.event(0, 4, VALUED, 1, 0));
+        check.badState("a breach in the last month", () -> hundredAMonth().event(0, 35, MORE, 1, 0));
         check.badState("also of the same kind", () -> x.event(0, 35, RELEASED, 0, 0));
         check.badArgument("the argument first", () -> x.event(0, 4, VALUED, 1, 1));
         check.badState("a breach", () -> x.event(0, 3, RELEASED, 0, 0));
@@ -264,6 +265,8 @@ public final class PromiseTest {
         check.due("the last is struck", true, x.strike(39));
         check.badState("a struck one counts", () -> x.event(5, 0, HELD, 0, 0));
         check.due("no one takes its number", NONE, x.told(39, 0));
+        check.due("none behind the last", NONE, x.told(40, 0));
+        check.due("none to strike", false, x.strike(40));
         check.due("nothing is held", 50, x.charge(5, 0));
     }
 
@@ -500,5 +503,9 @@ public final class PromiseTest {
         check.badState("no more", () -> x.part(10, 0, 35, 1, 0, 0));
         check.badArgument("nor wrong ones", () -> x.part(10, 11, 35, 1, 0, 0));
         check.due("six all the same", 6, x.parts());
+        check.badArgument("no units behind them", () -> x.units(6, 35, 0));
+        check.badArgument("no event behind them", () -> x.event(6, 35, MORE, 1, 0));
+        check.badArgument("no value behind them", () -> x.value(6, 35, 0));
+        check.badArgument("no total behind them", () -> x.total(6));
     }
 }

@@ -339,6 +339,11 @@ public final class TermsTest {
         check.due("held again", 3, x.event(0, 6, HELD, 0, 0));
         check.due("all sold when held", 4, x.event(0, 7, SOLD, 0, 1000000));
         breach("gone, so not released", x, 8, RELEASED, 0, 0);
+        AgedAssets w = with(1000, 100, 7, 0, 0);
+        w.event(0, 1, HELD, 0, 0);
+        w.event(0, 2, RELEASED, 0, 0);
+        // a stretch of 771 in 6 months would begin with 129
+        charges("neither of them begins a stretch", w, 0, 129, 0, 128, 129);
         AgedAssets y = with(1000, 0, 2, 0, 0);
         check.due("held without a rest of life", 0, y.event(0, 9, HELD, 0, 0));
         check.due("released without one", 1, y.event(0, 10, RELEASED, 0, 0));
