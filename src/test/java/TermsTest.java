@@ -249,6 +249,10 @@ public final class TermsTest {
         check.due("losses of it", 75, w.value(0, 3, LOSSES));
         w.event(0, 4, RESTORED, 700, 0);
         values("losses down to 0, no reserve comes back", w, 4, 1000, 300 + 117, 583, 0, 0, 0, 5);
+        AgedAssets u = with(1000, 0, 10, 3, 100);
+        u.event(0, 0, IMPAIRED, 400, 0);
+        check.due("by all of the allowance", 1, u.event(0, 1, RESTORED, 1000, 0));
+        values("it is as new", u, 1, 1000, 0, 1000, 0, 0, 0, 8);
         AgedAssets s = with(1000, 0, 10, 0, 0);
         s.event(0, 1, IMPAIRED, 100, 0);
         s.event(0, 3, SOLD, 0, 500000);
