@@ -55,7 +55,7 @@ public final class PromiseEdgesTest extends Edges {
     }
 
     private void newObject() {
-        sentence("AgedAssets(): No parts; nothing is posted.");
+        sentence("No parts; nothing is posted.");
         answers("NONE", -1, EMPTY, x -> AgedAssets.NONE);
         keeps("no parts", 0, EMPTY, x -> x.parts());
         keeps("nothing is posted", 0, EMPTY, x -> x.months());

@@ -21,7 +21,9 @@ import java.nio.file.Path;
 import java.util.ArrayList;
 import java.util.EnumSet;
 import java.util.List;
+import java.util.Map;
 import java.util.Set;
+import java.util.TreeMap;
 import java.util.TreeSet;
 import javax.tools.JavaCompiler;
 import javax.tools.StandardJavaFileManager;
@@ -57,6 +59,7 @@ public final class RulesTest extends TreeScanner<Void, Void> {
     private final Set<String> publicNames = new TreeSet<>();
     private final Set<String> ownMethods = new TreeSet<>();
     private final Set<String> ownClasses = new TreeSet<>();
+    private final Map<String, Set<String>> callsOf = new TreeMap<>();
     private String method = "";
 
     private RulesTest(CompilationUnitTree unit, Trees trees) {
@@ -118,6 +121,7 @@ public final class RulesTest extends TreeScanner<Void, Void> {
                 new Names(rules).scan(unit, null);
                 rules.scan(unit, null);
                 check.due("at most twelve classes", true, rules.ownClasses.size() <= 12);
+                rules.calls();
             }
         }
     }
@@ -142,9 +146,28 @@ public final class RulesTest extends TreeScanner<Void, Void> {
             if (node.getModifiers().getFlags().contains(javax.lang.model.element.Modifier.PUBLIC)) {
                 rules.publicNames.add(name);
             }
-            rules.ownMethods.add(name);
+            boolean isNew = rules.ownMethods.add(name);
+            check.due("one method alone is named " + name, true, isNew || name.equals("<init>"));
             return super.visitMethod(node, nothing);
         }
+    }
+
+    /** Names are enough to follow the calls by, as no two classes have a method of the same name. */
+    private void calls() {
+        for (String name : publicNames) {
+            int deep = depth(name, 1);
+            check.due("calls of " + name + " go at most eight deep, and none calls itself: " + deep, true, deep <= 8);
+        }
+    }
+
+    private int depth(String name, int above) {
+        int deepest = 1;
+        if (above <= 20) {
+            for (String called : callsOf.getOrDefault(name, Set.of())) {
+                deepest = Math.max(deepest, 1 + depth(called, above + 1));
+            }
+        }
+        return deepest;
     }
 
     private long line(long position) {
@@ -205,6 +228,7 @@ public final class RulesTest extends TreeScanner<Void, Void> {
         check.due("what is called is its own or of the library's part: " + called, true,
             LIBRARY.contains(called) || ownMethods.contains(name) || called.equals("super"));
         check.due("no recursion: " + method, false, name.equals(method));
+        callsOf.computeIfAbsent(method, none -> new TreeSet<>()).add(name);
         return super.visitMethodInvocation(node, nothing);
     }
 
